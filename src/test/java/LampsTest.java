@@ -154,6 +154,9 @@ public final class LampsTest {
             CHECK.due("5: offsetOf behind it", x.offsetOf(0, beat), leftOffsets[beat]);
         }
         CHECK.due("5: takeBeat, the last", x.takeBeat(0, 2), 2);
+        // Of 2:1, 5:3 and 7:4, which is taken, none strikes at 4.
+        CHECK.due("5: strikesAt(0, 4) without the last", x.strikesAt(0, 4), 0);
+        CHECK.due("5: isOnAt(0, 4) without the last", x.isOnAt(0, 4), true);
         CHECK.due("5: takeBeat, the first", x.takeBeat(0, 0), 1);
         CHECK.due("5: numberOf(0, 0)", x.numberOf(0, 0), 5);
         CHECK.due("5: takeBeat, the only one", x.takeBeat(0, 0), 0);

@@ -12,6 +12,7 @@ public final class LampsTogetherTest {
         farCollisions();
         toldApart();
         neverToldApart();
+        toldApartByEightBeats();
         pairsAreRefused();
         untilDark();
         farDark();
@@ -94,10 +95,27 @@ public final class LampsTogetherTest {
         CHECK.due("27: momentsUntilToldApart, one more beat", x.momentsUntilToldApart(0, 1), 7);
         x.addBeat(1, 13, 7);
         CHECK.due("27: momentsUntilToldApart, both more", x.momentsUntilToldApart(0, 1), -1);
+        x.addBeat(0, 11, 3);
+        CHECK.due("27: momentsUntilToldApart, a beat of one lamp", x.momentsUntilToldApart(0, 1), 3);
+        x.takeBeat(0, 3);
+        CHECK.due("27: momentsUntilToldApart, it is taken", x.momentsUntilToldApart(0, 1), -1);
         // The comparison of two lamps leaves nothing behind for the next one.
         x.addLamp(true);
         CHECK.due("27: momentsUntilToldApart(0, 2)", x.momentsUntilToldApart(0, 2), 0);
         CHECK.due("27: momentsUntilToldApart(0, 1) behind it", x.momentsUntilToldApart(0, 1), -1);
+    }
+
+    private static void toldApartByEightBeats() {
+        LanternPrimes x = twoLamps(false, false);
+        for (int lamp = 0; lamp < 2; lamp++) {
+            x.addBeat(lamp, 3, 1);
+            x.addBeat(lamp, 5, 2);
+            x.addBeat(lamp, 7, 3);
+            x.addBeat(lamp, 13, 12);
+        }
+        CHECK.due("27: momentsUntilToldApart, four beats each", x.momentsUntilToldApart(0, 1), -1);
+        x.moveBeat(1, 3, 11);
+        CHECK.due("27: momentsUntilToldApart, the last moved", x.momentsUntilToldApart(0, 1), 11);
     }
 
     private static void pairsAreRefused() {
@@ -195,6 +213,8 @@ public final class LampsTogetherTest {
         x.turnShutter(1);
         x.pass(3);
         CHECK.due("30: brightestWithin(9) at 8, covered", x.brightestWithin(9), 6);
+        x.pass(4);
+        CHECK.due("30: brightestWithin(2) at 12, the last", x.brightestWithin(2), 2);
     }
 
     private static void bestCover() {
@@ -262,6 +282,10 @@ public final class LampsTogetherTest {
         CHECK.due("32: meanBeats(), 2 of 3", x.meanBeats(), 2.0 / 3);
         x.takeBeat(0, 0);
         CHECK.due("32: meanBeats(), 1 of 3", x.meanBeats(), 1.0 / 3);
+        for (int lamp = 3; lamp < 8; lamp++) {
+            x.addLamp(false);
+        }
+        CHECK.due("32: meanBeats(), 1 of 8", x.meanBeats(), 0.125);
     }
 
     private static void digest() {
@@ -270,7 +294,7 @@ public final class LampsTogetherTest {
         x.addBeat(0, 3, 1);
         x.turnShutter(1);
         x.pass(4);
-        // Lamp 0 changes at 1, 2 (not at 4, two strikes): 3 changes with that of 0 have made it on.
+        // Lamp 0 changes at 0, 1 and 2, not at 4 (two strikes), so it is on; 2 changes were told.
         long[] told = {2, 4, 2, 1, 2, 0, 1, 0, 12, 2, 2, 0, 3, 1, 0, 1, 1, 1, 1, -1};
         long d = 1889;
         for (long each : told) {
@@ -278,5 +302,12 @@ public final class LampsTogetherTest {
         }
         CHECK.due("33: digest()", x.digest(), d);
         CHECK.due("33: digest() again", x.digest(), d);
+        LanternPrimes off = new LanternPrimes();
+        off.addLamp(false);
+        d = 1889;
+        for (long each : new long[] {1, 0, 0, 0, 0, 0, 0, 1, 1, -1}) {
+            d = d * 31 + each;
+        }
+        CHECK.due("33: digest() of a lamp that is off", off.digest(), d);
     }
 }

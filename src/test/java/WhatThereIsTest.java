@@ -90,9 +90,13 @@ public final class WhatThereIsTest {
         }
         CHECK.due("17: litLamps(), all", x.litLamps(), 8);
         CHECK.due("18: isDark(), all lit", x.isDark(), false);
-        for (int lamp = 0; lamp < 7; lamp++) {
+        for (int lamp = 1; lamp < 8; lamp++) {
             x.turnShutter(lamp);
         }
+        CHECK.due("18: isDark(), lamp 0 lit alone", x.isDark(), false);
+        x.turnShutter(0);
+        CHECK.due("18: isDark(), all covered", x.isDark(), true);
+        x.turnShutter(7);
         CHECK.due("17: litLamps(), one", x.litLamps(), 1);
         CHECK.due("18: isDark(), one lit", x.isDark(), false);
         x.addBeat(7, 13, 0);
