@@ -1,3 +1,6 @@
+import java.util.function.Function;
+import java.util.function.Supplier;
+
 /** Compares answers with those that are due and counts the wrong ones of one test. */
 final class Check {
     /** A call of which the answer, or the exception, is looked at. */
@@ -17,11 +20,15 @@ final class Check {
         }
     }
 
-    /** The call throws just this exception, none of a class below it, and changes nothing of the object. */
-    void refused(LanternPrimes x, String call, Class<? extends RuntimeException> due, Call made) {
-        String before = outline(x);
-        due(call, outcome(made), due.getName());
-        due(call + ", what is told behind it", outline(x), before);
+    /**
+     * The call throws just this exception, none of a class below it, and behind it the object
+     * answers all as one on which the call was not made.
+     */
+    void refused(Supplier<LanternPrimes> scene, String call, Class<? extends RuntimeException> due,
+            Function<LanternPrimes, Object> made) {
+        LanternPrimes x = scene.get();
+        due(call, outcome(() -> made.apply(x)), due.getName());
+        due(call + ", what is told behind it", Answers.of(x), Answers.of(scene.get()));
     }
 
     /** The answer of a call, or the name of the exception that it throws. */
@@ -31,10 +38,6 @@ final class Check {
         } catch (RuntimeException e) {
             return e.getClass().getName();
         }
-    }
-
-    private static String outline(LanternPrimes x) {
-        return x.lamps() + " " + x.now() + " " + x.changesSeen() + " " + x.digest();
     }
 
     /** Ends the program: exit code 1 if an answer was wrong, or none was looked at. */

@@ -1,10 +1,6 @@
 /** Promises 1 to 7: a new object, and the calls that change it. */
 public final class LampsTest {
-    private static final Class<IndexOutOfBoundsException> INDEX = IndexOutOfBoundsException.class;
-    private static final Class<IllegalArgumentException> ARGUMENT = IllegalArgumentException.class;
-    private static final Class<IllegalStateException> STATE = IllegalStateException.class;
     private static final int[] NUMBERS = {2, 3, 5, 7, 11, 13};
-    private static final int[] FAR = {Integer.MIN_VALUE, -1, Integer.MAX_VALUE};
 
     private static final Check CHECK = new Check();
 
@@ -12,14 +8,10 @@ public final class LampsTest {
         newObject();
         addLamp();
         addBeat();
-        addBeatRefuses();
         moveBeat();
-        moveBeatRefuses();
         takeBeat();
-        takeBeatRefuses();
         turnShutter();
         pass();
-        passRefuses();
         objectsStandAlone();
         CHECK.end();
     }
@@ -32,7 +24,6 @@ public final class LampsTest {
         CHECK.due("1: litLamps()", x.litLamps(), 0);
         CHECK.due("1: isDark()", x.isDark(), true);
         CHECK.due("1: digest()", x.digest(), 1889L * 31 * 31 * 31 * 31);
-        CHECK.refused(x, "1: isOn(0)", INDEX, () -> x.isOn(0));
     }
 
     private static void addLamp() {
@@ -45,8 +36,6 @@ public final class LampsTest {
             CHECK.due("2: isCovered", x.isCovered(lamp), false);
             CHECK.due("2: beatsOf", x.beatsOf(lamp), 0);
         }
-        CHECK.refused(x, "2: addLamp(true), the ninth", STATE, () -> x.addLamp(true));
-        CHECK.refused(x, "2: addLamp(false), the ninth", STATE, () -> x.addLamp(false));
     }
 
     private static void addBeat() {
@@ -72,41 +61,6 @@ public final class LampsTest {
         CHECK.due("3: changesSeen() stays", late.changesSeen(), 0);
     }
 
-    private static void addBeatRefuses() {
-        LanternPrimes x = new LanternPrimes();
-        CHECK.refused(x, "3: addBeat without lamps", INDEX, () -> x.addBeat(0, 4, 9));
-        x.addLamp(true);
-        for (int far : FAR) {
-            CHECK.refused(x, "3: addBeat, no such lamp", INDEX, () -> x.addBeat(far, 4, -1));
-            CHECK.refused(x, "3: addBeat, no such number", ARGUMENT, () -> x.addBeat(0, far, 0));
-            CHECK.refused(x, "3: addBeat, no such offset", ARGUMENT, () -> x.addBeat(0, 13, far));
-        }
-        for (int number = -2; number <= 40; number++) {
-            int tried = number;
-            if (!isOfTheSix(number)) {
-                CHECK.refused(x, "3: addBeat(0, " + number + ", 0)", ARGUMENT, () -> x.addBeat(0, tried, 0));
-            } else {
-                CHECK.refused(x, "3: addBeat, offset too far", ARGUMENT, () -> x.addBeat(0, tried, tried));
-            }
-        }
-        for (int beat = 0; beat < 4; beat++) {
-            x.addBeat(0, 5, beat);
-        }
-        CHECK.refused(x, "3: addBeat, the fifth", STATE, () -> x.addBeat(0, 2, 0));
-        CHECK.refused(x, "3: addBeat, the fifth, wrong number", ARGUMENT, () -> x.addBeat(0, 1, 0));
-        CHECK.refused(x, "3: addBeat, the fifth, wrong offset", ARGUMENT, () -> x.addBeat(0, 2, 2));
-        CHECK.refused(x, "3: addBeat, lamp 1 of 1", INDEX, () -> x.addBeat(1, 2, 0));
-    }
-
-    private static boolean isOfTheSix(int number) {
-        for (int one : NUMBERS) {
-            if (one == number) {
-                return true;
-            }
-        }
-        return false;
-    }
-
     private static void moveBeat() {
         LanternPrimes x = new LanternPrimes();
         x.addLamp(false);
@@ -119,24 +73,6 @@ public final class LampsTest {
         CHECK.due("4: numberOf(0, 1)", x.numberOf(0, 1), 13);
         CHECK.due("4: offsetOf(0, 0)", x.offsetOf(0, 0), 3);
         CHECK.due("4: isOn(0)", x.isOn(0), true);
-    }
-
-    private static void moveBeatRefuses() {
-        LanternPrimes x = new LanternPrimes();
-        CHECK.refused(x, "4: moveBeat without lamps", INDEX, () -> x.moveBeat(0, 0, 0));
-        x.addLamp(false);
-        CHECK.refused(x, "4: moveBeat without beats", INDEX, () -> x.moveBeat(0, 0, -1));
-        x.addBeat(0, 5, 3);
-        x.addBeat(0, 13, 3);
-        CHECK.refused(x, "4: moveBeat(1, 0, 9)", INDEX, () -> x.moveBeat(1, 0, 9));
-        CHECK.refused(x, "4: moveBeat(0, 2, 99)", INDEX, () -> x.moveBeat(0, 2, 99));
-        CHECK.refused(x, "4: moveBeat(0, 0, 5)", ARGUMENT, () -> x.moveBeat(0, 0, 5));
-        CHECK.refused(x, "4: moveBeat(0, 1, 13)", ARGUMENT, () -> x.moveBeat(0, 1, 13));
-        for (int far : FAR) {
-            CHECK.refused(x, "4: moveBeat, no such lamp", INDEX, () -> x.moveBeat(far, 0, 0));
-            CHECK.refused(x, "4: moveBeat, no such beat", INDEX, () -> x.moveBeat(0, far, 0));
-            CHECK.refused(x, "4: moveBeat, no such offset", ARGUMENT, () -> x.moveBeat(0, 0, far));
-        }
     }
 
     private static void takeBeat() {
@@ -165,23 +101,8 @@ public final class LampsTest {
         CHECK.due("5: numberOf behind that", x.numberOf(0, 0), 11);
     }
 
-    private static void takeBeatRefuses() {
-        LanternPrimes x = new LanternPrimes();
-        CHECK.refused(x, "5: takeBeat without lamps", INDEX, () -> x.takeBeat(0, 0));
-        x.addLamp(false);
-        CHECK.refused(x, "5: takeBeat without beats", INDEX, () -> x.takeBeat(0, 0));
-        x.addBeat(0, 2, 1);
-        CHECK.refused(x, "5: takeBeat(0, 1)", INDEX, () -> x.takeBeat(0, 1));
-        CHECK.refused(x, "5: takeBeat(1, 0)", INDEX, () -> x.takeBeat(1, 0));
-        for (int far : FAR) {
-            CHECK.refused(x, "5: takeBeat, no such beat", INDEX, () -> x.takeBeat(0, far));
-            CHECK.refused(x, "5: takeBeat, no such lamp", INDEX, () -> x.takeBeat(far, 0));
-        }
-    }
-
     private static void turnShutter() {
         LanternPrimes x = new LanternPrimes();
-        CHECK.refused(x, "6: turnShutter without lamps", INDEX, () -> x.turnShutter(0));
         x.addLamp(true);
         x.addLamp(true);
         x.addBeat(1, 2, 1);
@@ -192,10 +113,6 @@ public final class LampsTest {
         CHECK.due("6: isOn(1), it goes on turning", x.isOn(1), false);
         CHECK.due("6: turnShutter(1) again", x.turnShutter(1), false);
         CHECK.due("6: isCovered(1) again", x.isCovered(1), false);
-        CHECK.refused(x, "6: turnShutter(2)", INDEX, () -> x.turnShutter(2));
-        for (int far : FAR) {
-            CHECK.refused(x, "6: turnShutter, no such lamp", INDEX, () -> x.turnShutter(far));
-        }
     }
 
     private static void pass() {
@@ -218,16 +135,6 @@ public final class LampsTest {
         // 250 times lamp 0; lamp 1 at 250 even moments and 167 others by 3, less 84 at which both strike.
         CHECK.due("7: pass(500)", x.pass(500), 250 + 250 + 167 - 2 * 84);
         CHECK.due("7: now() behind that", x.now(), 508);
-    }
-
-    private static void passRefuses() {
-        LanternPrimes x = new LanternPrimes();
-        x.addLamp(true);
-        x.addBeat(0, 2, 0);
-        int[] wrong = {Integer.MIN_VALUE, -500, -1, 0, 501, 60000, Integer.MAX_VALUE};
-        for (int moments : wrong) {
-            CHECK.refused(x, "7: pass(" + moments + ")", ARGUMENT, () -> x.pass(moments));
-        }
     }
 
     private static void objectsStandAlone() {

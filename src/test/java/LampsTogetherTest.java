@@ -1,10 +1,5 @@
 /** Promises 25 to 33: what several lamps do together. */
 public final class LampsTogetherTest {
-    private static final Class<IndexOutOfBoundsException> INDEX = IndexOutOfBoundsException.class;
-    private static final Class<IllegalArgumentException> ARGUMENT = IllegalArgumentException.class;
-    private static final int[] FAR = {Integer.MIN_VALUE, -1, 2, Integer.MAX_VALUE};
-    private static final int[] NOT_1_TO_500 = {Integer.MIN_VALUE, -1, 0, 501, Integer.MAX_VALUE};
-
     private static final Check CHECK = new Check();
 
     public static void main(String[] args) {
@@ -13,28 +8,18 @@ public final class LampsTogetherTest {
         toldApart();
         neverToldApart();
         toldApartByEightBeats();
-        pairsAreRefused();
         untilDark();
-        farDark();
         darkWithin();
         brightest();
         bestCover();
         bestCoverChangesNothing();
-        momentsAreRefused();
         meanBeats();
         digest();
         CHECK.end();
     }
 
-    private static LanternPrimes twoLamps(boolean onA, boolean onB) {
-        LanternPrimes x = new LanternPrimes();
-        x.addLamp(onA);
-        x.addLamp(onB);
-        return x;
-    }
-
     private static void collisions() {
-        LanternPrimes x = twoLamps(false, true);
+        LanternPrimes x = Scene.lamps(false, true);
         CHECK.due("25: momentsUntilCollision without beats", x.momentsUntilCollision(0, 1), -1);
         CHECK.due("26: collisionsWithin without beats", x.collisionsWithin(0, 1, 500), 0);
         x.addBeat(0, 2, 0);
@@ -53,11 +38,11 @@ public final class LampsTogetherTest {
     }
 
     private static void farCollisions() {
-        LanternPrimes x = twoLamps(false, false);
+        LanternPrimes x = Scene.lamps(false, false);
         x.addBeat(0, 13, 0);
         x.addBeat(1, 11, 0);
         CHECK.due("25: momentsUntilCollision, 143", x.momentsUntilCollision(0, 1), 143);
-        LanternPrimes y = twoLamps(false, false);
+        LanternPrimes y = Scene.lamps(false, false);
         y.addBeat(0, 2, 0);
         y.addBeat(1, 2, 1);
         CHECK.due("25: momentsUntilCollision, never", y.momentsUntilCollision(0, 1), -1);
@@ -65,7 +50,7 @@ public final class LampsTogetherTest {
     }
 
     private static void toldApart() {
-        LanternPrimes x = twoLamps(true, false);
+        LanternPrimes x = Scene.lamps(true, false);
         CHECK.due("27: momentsUntilToldApart, now", x.momentsUntilToldApart(0, 1), 0);
         x.turnShutter(0);
         CHECK.due("27: momentsUntilToldApart, now, covered", x.momentsUntilToldApart(1, 0), 0);
@@ -74,7 +59,7 @@ public final class LampsTogetherTest {
         CHECK.due("27: momentsUntilToldApart(1, 0)", x.momentsUntilToldApart(1, 0), 13);
         x.addBeat(0, 13, 0);
         CHECK.due("27: momentsUntilToldApart, now again", x.momentsUntilToldApart(0, 1), 0);
-        LanternPrimes y = twoLamps(false, false);
+        LanternPrimes y = Scene.lamps(false, false);
         y.addBeat(0, 3, 1);
         y.addBeat(1, 5, 1);
         CHECK.due("27: momentsUntilToldApart at 0", y.momentsUntilToldApart(0, 1), 4);
@@ -83,7 +68,7 @@ public final class LampsTogetherTest {
     }
 
     private static void neverToldApart() {
-        LanternPrimes x = twoLamps(true, true);
+        LanternPrimes x = Scene.lamps(true, true);
         CHECK.due("27: momentsUntilToldApart without beats", x.momentsUntilToldApart(0, 1), -1);
         x.addBeat(0, 2, 0);
         x.addBeat(0, 2, 1);
@@ -106,7 +91,7 @@ public final class LampsTogetherTest {
     }
 
     private static void toldApartByEightBeats() {
-        LanternPrimes x = twoLamps(false, false);
+        LanternPrimes x = Scene.lamps(false, false);
         for (int lamp = 0; lamp < 2; lamp++) {
             x.addBeat(lamp, 3, 1);
             x.addBeat(lamp, 5, 2);
@@ -116,27 +101,6 @@ public final class LampsTogetherTest {
         CHECK.due("27: momentsUntilToldApart, four beats each", x.momentsUntilToldApart(0, 1), -1);
         x.moveBeat(1, 3, 11);
         CHECK.due("27: momentsUntilToldApart, the last moved", x.momentsUntilToldApart(0, 1), 11);
-    }
-
-    private static void pairsAreRefused() {
-        LanternPrimes x = twoLamps(true, false);
-        for (int far : FAR) {
-            CHECK.refused(x, "25: no such first lamp", INDEX, () -> x.momentsUntilCollision(far, 0));
-            CHECK.refused(x, "25: no such second lamp", INDEX, () -> x.momentsUntilCollision(0, far));
-            CHECK.refused(x, "25: no such lamp twice", INDEX, () -> x.momentsUntilCollision(far, far));
-            CHECK.refused(x, "26: no such first lamp", INDEX, () -> x.collisionsWithin(far, 0, 0));
-            CHECK.refused(x, "26: no such second lamp", INDEX, () -> x.collisionsWithin(0, far, 501));
-            CHECK.refused(x, "26: no such lamp twice", INDEX, () -> x.collisionsWithin(far, far, 9));
-            CHECK.refused(x, "27: no such first lamp", INDEX, () -> x.momentsUntilToldApart(far, 0));
-            CHECK.refused(x, "27: no such second lamp", INDEX, () -> x.momentsUntilToldApart(0, far));
-            CHECK.refused(x, "27: no such lamp twice", INDEX, () -> x.momentsUntilToldApart(far, far));
-        }
-        CHECK.refused(x, "25: the same lamp", ARGUMENT, () -> x.momentsUntilCollision(1, 1));
-        CHECK.refused(x, "26: the same lamp", ARGUMENT, () -> x.collisionsWithin(0, 0, 5));
-        CHECK.refused(x, "27: the same lamp", ARGUMENT, () -> x.momentsUntilToldApart(1, 1));
-        for (int moments : NOT_1_TO_500) {
-            CHECK.refused(x, "26: wrong moments", ARGUMENT, () -> x.collisionsWithin(0, 1, moments));
-        }
     }
 
     private static void untilDark() {
@@ -151,31 +115,6 @@ public final class LampsTogetherTest {
         CHECK.due("28: momentsUntilDark() at 0", x.momentsUntilDark(), 3);
         x.pass(10);
         CHECK.due("28: momentsUntilDark() at 10", x.momentsUntilDark(), 7);
-    }
-
-    /** These lamps are dark for the first time at 2001; NaiveLanterns tells so, moment by moment. */
-    private static void farDark() {
-        boolean[] on = {true, true, true, false, false, true, true, true};
-        int[][] beats = {
-            {3, 0, 3, 2}, {13, 7, 5, 1}, {3, 2}, {13, 7}, {11, 10, 7, 4, 2, 0, 3, 2},
-            {5, 2, 5, 1, 2, 0, 5, 1}, {2, 0}, {5, 4, 7, 5, 3, 1, 11, 6}
-        };
-        LanternPrimes x = new LanternPrimes();
-        NaiveLanterns y = new NaiveLanterns();
-        for (int lamp = 0; lamp < 8; lamp++) {
-            x.addLamp(on[lamp]);
-            y.addLamp(on[lamp]);
-            for (int i = 0; i < beats[lamp].length; i += 2) {
-                x.addBeat(lamp, beats[lamp][i], beats[lamp][i + 1]);
-                y.addBeat(lamp, beats[lamp][i], beats[lamp][i + 1]);
-            }
-        }
-        CHECK.due("28: momentsUntilDark(), 2001 is too far", x.momentsUntilDark(), -1);
-        CHECK.due("28: the naive program too", y.momentsUntilDark(), -1);
-        x.pass(1);
-        y.pass(1);
-        CHECK.due("28: momentsUntilDark(), 2000 is not", x.momentsUntilDark(), 2000);
-        CHECK.due("28: the naive program too", y.momentsUntilDark(), 2000);
     }
 
     private static void darkWithin() {
@@ -232,7 +171,7 @@ public final class LampsTogetherTest {
         CHECK.due("31: bestCover(200), the last", x.bestCover(200), 1);
         x.turnShutter(1);
         CHECK.due("31: bestCover(200), all covered", x.bestCover(200), -1);
-        LanternPrimes y = twoLamps(false, false);
+        LanternPrimes y = Scene.lamps(false, false);
         y.addBeat(0, 13, 1);
         y.addBeat(1, 13, 2);
         // Lamp 0 is lit from 1 on, lamp 1 from 2 on.
@@ -243,30 +182,13 @@ public final class LampsTogetherTest {
     }
 
     private static void bestCoverChangesNothing() {
-        LanternPrimes x = twoLamps(true, true);
+        LanternPrimes x = Scene.lamps(true, true);
         x.addBeat(0, 3, 1);
         long before = x.digest();
         x.bestCover(200);
         CHECK.due("31: digest() behind bestCover", x.digest(), before);
         CHECK.due("31: isCovered(0)", x.isCovered(0), false);
         CHECK.due("31: isCovered(1)", x.isCovered(1), false);
-    }
-
-    private static void momentsAreRefused() {
-        LanternPrimes empty = new LanternPrimes();
-        LanternPrimes x = twoLamps(true, false);
-        for (int moments : NOT_1_TO_500) {
-            CHECK.refused(x, "29: darkWithin(" + moments + ")", ARGUMENT, () -> x.darkWithin(moments));
-            CHECK.refused(x, "30: brightestWithin(" + moments + ")", ARGUMENT, () -> x.brightestWithin(moments));
-            CHECK.refused(x, "31: bestCover(" + moments + ")", ARGUMENT, () -> x.bestCover(moments));
-            CHECK.refused(empty, "29: without lamps", ARGUMENT, () -> empty.darkWithin(moments));
-            CHECK.refused(empty, "30: without lamps", ARGUMENT, () -> empty.brightestWithin(moments));
-            CHECK.refused(empty, "31: without lamps", ARGUMENT, () -> empty.bestCover(moments));
-        }
-        CHECK.refused(x, "31: bestCover(201)", ARGUMENT, () -> x.bestCover(201));
-        CHECK.due("31: bestCover(200)", x.bestCover(200), 0);
-        CHECK.due("29: darkWithin(500)", x.darkWithin(500), 0);
-        CHECK.due("30: brightestWithin(500)", x.brightestWithin(500), 1);
     }
 
     private static void meanBeats() {
@@ -289,7 +211,7 @@ public final class LampsTogetherTest {
     }
 
     private static void digest() {
-        LanternPrimes x = twoLamps(false, true);
+        LanternPrimes x = Scene.lamps(false, true);
         x.addBeat(0, 2, 0);
         x.addBeat(0, 3, 1);
         x.turnShutter(1);

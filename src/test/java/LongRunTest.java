@@ -1,4 +1,4 @@
-/** Promises 7, 9, 10, 19 to 33 at the end of a run of 512 calls, most of them pass(500). */
+/** "At most 512 calls": answers at the end of a run of so many calls, most of them pass(500). */
 public final class LongRunTest {
     private static final int PASSES = 490;
 
@@ -24,6 +24,11 @@ public final class LongRunTest {
         CHECK.due("shows(2, 30)", x.shows(2, 30), y.shows(2, 30));
         CHECK.due("momentsUntilToldApart(1, 3)", x.momentsUntilToldApart(1, 3), y.momentsUntilToldApart(1, 3));
         CHECK.due("brightestWithin(500)", x.brightestWithin(500), y.brightestWithin(500));
+        CHECK.due("momentsUntilDark()", x.momentsUntilDark(), y.momentsUntilDark());
+        CHECK.due("bestCover(200)", x.bestCover(200), y.bestCover(200));
+        CHECK.due("momentsUntilCollision(0, 2)", x.momentsUntilCollision(0, 2), y.momentsUntilCollision(0, 2));
+        CHECK.due("isOnAt(3, 60000)", x.isOnAt(3, 60000), y.isOnAt(3, 60000));
+        // Call 512, the last one of which the document tells.
         CHECK.due("digest()", x.digest(), y.digest());
         CHECK.end();
     }

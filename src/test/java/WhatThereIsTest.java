@@ -1,8 +1,5 @@
 /** Promises 8 to 18: what there is now. */
 public final class WhatThereIsTest {
-    private static final Class<IndexOutOfBoundsException> INDEX = IndexOutOfBoundsException.class;
-    private static final int[] FAR = {Integer.MIN_VALUE, -1, Integer.MAX_VALUE};
-
     private static final Check CHECK = new Check();
 
     public static void main(String[] args) {
@@ -11,8 +8,6 @@ public final class WhatThereIsTest {
         covered();
         onAndLit();
         litLampsAndDark();
-        unknownLampsAreRefused();
-        unknownBeatsAreRefused();
         CHECK.end();
     }
 
@@ -102,46 +97,5 @@ public final class WhatThereIsTest {
         x.addBeat(7, 13, 0);
         CHECK.due("17: litLamps(), all covered or off", x.litLamps(), 0);
         CHECK.due("18: isDark(), all covered or off", x.isDark(), true);
-    }
-
-    private static void unknownLampsAreRefused() {
-        LanternPrimes x = new LanternPrimes();
-        refuseLamp(x, 0);
-        for (int lamp = 0; lamp < 8; lamp++) {
-            x.addLamp(true);
-            refuseLamp(x, lamp + 1);
-        }
-        for (int far : FAR) {
-            refuseLamp(x, far);
-        }
-    }
-
-    private static void refuseLamp(LanternPrimes x, int lamp) {
-        CHECK.refused(x, "11: beatsOf, no such lamp", INDEX, () -> x.beatsOf(lamp));
-        CHECK.refused(x, "12: numberOf, no such lamp", INDEX, () -> x.numberOf(lamp, 0));
-        CHECK.refused(x, "13: offsetOf, no such lamp", INDEX, () -> x.offsetOf(lamp, 0));
-        CHECK.refused(x, "14: isCovered, no such lamp", INDEX, () -> x.isCovered(lamp));
-        CHECK.refused(x, "15: isOn, no such lamp", INDEX, () -> x.isOn(lamp));
-        CHECK.refused(x, "16: isLit, no such lamp", INDEX, () -> x.isLit(lamp));
-    }
-
-    private static void unknownBeatsAreRefused() {
-        LanternPrimes x = new LanternPrimes();
-        x.addLamp(true);
-        refuseBeat(x, 0);
-        for (int beat = 0; beat < 4; beat++) {
-            x.addBeat(0, 7, beat);
-            refuseBeat(x, beat + 1);
-        }
-        for (int far : FAR) {
-            refuseBeat(x, far);
-        }
-        x.takeBeat(0, 0);
-        refuseBeat(x, 3);
-    }
-
-    private static void refuseBeat(LanternPrimes x, int beat) {
-        CHECK.refused(x, "12: numberOf, no such beat", INDEX, () -> x.numberOf(0, beat));
-        CHECK.refused(x, "13: offsetOf, no such beat", INDEX, () -> x.offsetOf(0, beat));
     }
 }
