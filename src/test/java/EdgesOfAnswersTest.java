@@ -152,8 +152,10 @@ public final class EdgesOfAnswersTest {
         CHECK.due("24: shows(0, 29), without it", Scene.lamp(false, 13, 3).shows(0, 29), 8191 << 13);
         // Turned at 4, 17 and 30: the last of them is too late.
         CHECK.due("24: shows(0, 30), 30 is too late", Scene.lamp(false, 13, 4).shows(0, 30), 8191 << 13);
-        // On at 0 alone, up to 21: turned at 0, 1 and 22.
-        CHECK.due("24: shows(0, 22), the first on", Scene.lamp(false, 11, 0, 13, 11, 2, 1, 2, 1).shows(0, 22), (1 << 22) - 1);
+        // On from 0 to 21: turned at 0 and 22.
+        LanternPrimes first = Scene.lamp(false, 11, 0, 13, 11);
+        CHECK.due("24: shows(0, 22), all on", first.shows(0, 22), (1 << 22) - 1);
+        CHECK.due("24: shows(0, 24), the first 22 on", first.shows(0, 24), ((1 << 22) - 1) << 2);
     }
 
     /** Promise 25: "1 to 1000; -1 if not by then"; 209 is the greatest that two lamps can make. */

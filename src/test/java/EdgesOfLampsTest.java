@@ -98,7 +98,7 @@ public final class EdgesOfLampsTest {
         CHECK.due("Terms: isDark at 7", x.isDark(), true);
     }
 
-    /** "A beat that is added or moved counts as if it had been so from the moment 0 on"; all is so by the beats as they are. */
+    /** "A beat that is added or moved counts as if it had been so from the moment 0 on", and one that is taken not at all. */
     private static void lateBeatsCountFromTheMoment0() {
         LanternPrimes x = Scene.lamps(false);
         x.pass(10);
